@@ -385,9 +385,9 @@ public final class VoiceGateway {
             if ((code & 1) != 0) {
                 change += t / 4;
             }
-            int newValue = (code & 8) != 0 ? value - change : value + change;
             int indexChange = (code & 4) != 0 ? 2 + 2 * (code & 3) : -1;
-            set(newValue, index + indexChange);
+            value = within((code & 8) != 0 ? value - change : value + change, LEAST_SAMPLE, MOST_SAMPLE);
+            index = within(index + indexChange, 0, LAST_INDEX);
         }
 
         private static int within(int x, int least, int most) {

@@ -9,7 +9,7 @@ import java.util.Map;
  * It shares no code with the program, and searches where the program computes.
  */
 final class Model {
-    private static final int[] STEPS = Arrays.stream(("7 8 9 10 11 12 13 14 16 17 19 21 23 25 28 31 34 37 41 45 50 55 60 "
+    static final int[] STEPS = Arrays.stream(("7 8 9 10 11 12 13 14 16 17 19 21 23 25 28 31 34 37 41 45 50 55 60 "
             + "66 73 80 88 97 107 118 130 143 157 173 190 209 230 253 279 307 337 371 408 449 494 544 598 658 724 796 876 "
             + "963 1060 1166 1282 1411 1552 1707 1878 2066 2272 2499 2749 3024 3327 3660 4026 4428 4871 5358 5894 6484 "
             + "7132 7845 8630 9493 10442 11487 12635 13899 15289 16818 18500 20350 22385 24623 27086 29794 32767")
@@ -94,7 +94,7 @@ final class Model {
         return true;
     }
 
-    private static int halfByte(int[] state, int x) {
+    static int halfByte(int[] state, int x) {
         int t = STEPS[state[1]];
         int r = Math.abs(x - state[0]);
         int code = x < state[0] ? 8 : 0;
@@ -108,7 +108,7 @@ final class Model {
         return code;
     }
 
-    private static int[] changed(int[] state, int code) {
+    static int[] changed(int[] state, int code) {
         int t = STEPS[state[1]];
         int by = t / 8 + code / 4 % 2 * t + code / 2 % 2 * (t / 2) + code % 2 * (t / 4);
         int value = Math.max(-32768, Math.min(32767, state[0] + (code >= 8 ? -by : by)));

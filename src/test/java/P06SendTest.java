@@ -6,6 +6,8 @@ public final class P06SendTest {
         packetsOfAllCodings();
         codingTwoGoesOn();
         codingTwoAtItsEdges();
+        codesOfTheFirstStep();
+        everyStepOfCodingTwo();
         sequenceAndTimeWrap();
         lengths();
         orderOfRefusals();
@@ -67,6 +69,67 @@ public final class P06SendTest {
         VoiceGateway still = new VoiceGateway();
         Calls.sendOne(still, 2, 0, 0);
         CHECK.due("the index begins at 0", still.figure(11), 0);
+    }
+
+    /** The first step is 7, its half 3, its quarter 1. */
+    private static void codesOfTheFirstStep() {
+        int[] codes = {0, 1, 1, 2, 3, 3, 3, 4, 5, 5, 6, 7, 7};
+        for (int x = -12; x <= 12; x++) {
+            VoiceGateway g = new VoiceGateway();
+            Calls.sendOne(g, 2, x, 0);
+            CHECK.due("first code of " + x, g.byteAt(0, 16) >> 4, codes[Math.abs(x)] + (x < 0 ? 8 : 0));
+        }
+    }
+
+    /** At each index: the samples round every border between two codes, upwards and downwards. */
+    private static void everyStepOfCodingTwo() {
+        for (int index = 0; index < 89; index++) {
+            int t = Model.STEPS[index];
+            int[] borders = {0, t / 4, t / 2, t / 2 + t / 4, t, t + t / 4, t + t / 2, t + t / 2 + t / 4};
+            for (int border : borders) {
+                for (int off = -1; off <= 1; off++) {
+                    oneCodeAt(index, border + off);
+                    oneCodeAt(index, -border - off);
+                }
+            }
+        }
+    }
+
+    private static void oneCodeAt(int index, int off) {
+        VoiceGateway g = new VoiceGateway();
+        int[] state = driveTo(g, index);
+        CHECK.due("driven to index " + index, g.figure(11), index);
+        int x = Math.max(-32768, Math.min(32767, state[0] + off));
+        int code = Model.halfByte(state, x);
+        state = Model.changed(state, code);
+        int second = Model.halfByte(state, x);
+        state = Model.changed(state, second);
+        Calls.sendOne(g, 2, x, x);
+        CHECK.due("index " + index + ", off by " + off, g.byteAt(0, 16), 16 * code + second);
+        CHECK.due("its value", g.figure(10), state[0]);
+        CHECK.due("its index", g.figure(11), state[1]);
+    }
+
+    /** Codes 4 raise the index by 2, codes 0 .. 3 let it fall by 1; the line is empty afterwards. */
+    private static int[] driveTo(VoiceGateway g, int index) {
+        int[] state = {0, 0};
+        int pairs = 0;
+        while (state[1] != index) {
+            for (int i = 0; i < 2; i++) {
+                boolean up = state[1] < index;
+                int t = Model.STEPS[state[1]];
+                int x = state[0] + (up ? state[0] > 0 ? -t : t : 0);
+                state = Model.changed(state, Model.halfByte(state, x));
+                g.feed(x);
+            }
+            pairs++;
+            g.send(2, 2, false);
+            g.disturb(0, 0);
+            if (pairs > 100) {
+                throw new IllegalStateException("index " + index + " is not reached");
+            }
+        }
+        return state;
     }
 
     private static void sequenceAndTimeWrap() {

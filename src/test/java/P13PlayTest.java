@@ -5,6 +5,7 @@ public final class P13PlayTest {
     public static void main(String[] args) {
         expandsAllCodings();
         expandsCodingTwoByItsHead();
+        expandsEveryCodeOfEveryIndex();
         putsInOrder();
         concealsTowardsZero();
         concealsAgainFromTheNewLastOnes();
@@ -54,6 +55,24 @@ public final class P13PlayTest {
         poked.play();
         CHECK.due("brought back at both ends", Calls.outputOf(poked), "32767 -28669 -32768 -29044");
         CHECK.due("the sender's own is not touched", poked.figure(11), 0);
+    }
+
+    private static void expandsEveryCodeOfEveryIndex() {
+        for (int index = 0; index < 89; index++) {
+            for (int code = 0; code < 16; code++) {
+                VoiceGateway g = new VoiceGateway();
+                Calls.sendOne(g, 2, 0, 0);
+                int[] first = Model.changed(new int[] {-300, index}, code);
+                int[] second = Model.changed(first, 15 - code);
+                int[] body = {254, 212, index, 0, 16 * code + 15 - code};
+                for (int i = 0; i < body.length; i++) {
+                    g.poke(0, 12 + i, body[i]);
+                }
+                g.receive();
+                g.play();
+                CHECK.due("index " + index + ", code " + code, Calls.outputOf(g), first[0] + " " + second[0]);
+            }
+        }
     }
 
     private static void putsInOrder() {
@@ -126,24 +145,26 @@ public final class P13PlayTest {
     }
 
     private static void dropsItsPackets() {
-        VoiceGateway g = new VoiceGateway();
-        Calls.bring(g, 0, 0, false, 16);
-        Calls.bring(g, 6, 0, false, 6);
-        Calls.bring(g, 7, 0, false, 7);
-        for (int i = 0; i < 5; i++) {
+        for (int start = 0; start < 8; start++) {
+            VoiceGateway g = new VoiceGateway();
+            Calls.bring(g, start, 0, false, 16);
+            Calls.bring(g, start + 6, 0, false, 6);
+            Calls.bring(g, start + 7, 0, false, 7);
+            for (int i = 0; i < 5; i++) {
+                g.play();
+            }
+            CHECK.due("both are there", g.figure(1), 2);
+            CHECK.due("the fifth loss", g.play(), 0);
+            CHECK.due("none is there", g.figure(1), 0);
+            CHECK.due("at rest", g.play(), VoiceGateway.EMPTY);
+            CHECK.due("a new run", Calls.bring(g, start + 5, 0, false, 5), 0);
+            CHECK.due("a dropped one may come again", Calls.bring(g, start + 6, 1, false, 66), 1);
             g.play();
+            g.play();
+            CHECK.due("and is played", g.sample(6), 66);
+            g.play();
+            CHECK.due("the other is not", g.sample(7), 33);
         }
-        CHECK.due("both are there", g.figure(1), 2);
-        CHECK.due("the fifth loss", g.play(), 0);
-        CHECK.due("none is there", g.figure(1), 0);
-        CHECK.due("at rest", g.play(), VoiceGateway.EMPTY);
-        CHECK.due("a new run", Calls.bring(g, 5, 0, false, 5), 0);
-        CHECK.due("a dropped one may come again", Calls.bring(g, 6, 1, false, 66), 1);
-        g.play();
-        g.play();
-        CHECK.due("and is played", g.sample(6), 66);
-        g.play();
-        CHECK.due("the other is not", g.sample(7), 33);
     }
 
     private static void countsJumps() {
