@@ -8,6 +8,7 @@ public final class P13PlayTest {
         expandsEveryCodeOfEveryIndex();
         putsInOrder();
         concealsTowardsZero();
+        concealsAfterEveryCoding();
         concealsAgainFromTheNewLastOnes();
         comesToRest();
         dropsItsPackets();
@@ -103,6 +104,19 @@ public final class P13PlayTest {
                 + " 0 0 0 4 -4 4095 -4096"
                 + " 0 0 0 2 -2 2047 -2048");
         CHECK.due("figures", Calls.figures(g), "2 0 5 0 0 0 0 0 4 0 0 0 1");
+    }
+
+    private static void concealsAfterEveryCoding() {
+        for (int coding = 0; coding < 4; coding++) {
+            VoiceGateway g = new VoiceGateway();
+            Calls.sendOne(g, coding, 500, -900, 7000, -1);
+            g.receive();
+            CHECK.due("a packet of coding " + coding, g.play(), 4);
+            CHECK.due("a loss", g.play(), 4);
+            for (int i = 0; i < 4; i++) {
+                CHECK.due("sample " + i + " by half", g.sample(4 + i), g.sample(i) / 2);
+            }
+        }
     }
 
     private static void concealsAgainFromTheNewLastOnes() {
