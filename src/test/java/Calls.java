@@ -31,10 +31,24 @@ final class Calls {
         }
     }
 
+    static void pokeAll(VoiceGateway g, int k, int from, int... bytes) {
+        for (int i = 0; i < bytes.length; i++) {
+            if (!g.poke(k, from + i, bytes[i])) {
+                throw new IllegalStateException("poke(" + k + ", " + (from + i) + ", " + bytes[i] + ") was refused");
+            }
+        }
+    }
+
     static void receiveAll(VoiceGateway g) {
         int n = g.line();
         for (int i = 0; i < n; i++) {
             g.receive();
+        }
+    }
+
+    static void playTimes(VoiceGateway g, int n) {
+        for (int i = 0; i < n; i++) {
+            g.play();
         }
     }
 
@@ -45,17 +59,119 @@ final class Calls {
         return g.receive();
     }
 
+    /**
+     * A past that leaves something everywhere. The buffer plays and has lost one packet; the next one is missing
+     * too, and the one behind has the time that will be expected, so that a change of any part shows later.
+     */
+    static void busy(VoiceGateway g) {
+        g.prefill(2);
+        g.begin(65533, 1000, 1);
+        sendOne(g, 3, 1000, -2000);
+        sendOne(g, 3, 1, 1);
+        sendOne(g, 3, 1, 1);
+        sendOne(g, 3, 300, -400);
+        g.disturb(1, 0);
+        g.disturb(1, 0);
+        receiveAll(g);
+        playTimes(g, 2);
+        sendMarked(g, 2, true, 500, -700);
+        sendOne(g, 0, 9);
+        feedAll(g, 11, 12, 13);
+    }
+
+    /** A full output, a full line and a full input, with sixteen samples a packet; the buffer plays and has none. */
+    static void fullEverywhere(VoiceGateway g) {
+        fullOutput(g);
+        for (int i = 0; i < 16; i++) {
+            g.feed(i);
+        }
+        g.send(1, 16, false);
+        for (int i = 0; i < 7; i++) {
+            g.disturb(0, 2);
+        }
+        for (int i = 0; i < 64; i++) {
+            g.feed(-i);
+        }
+    }
+
+    /** 256 samples in the output: thrice a packet of 16 and four losses, and one packet more, sequences 0 .. 15. */
+    static void fullOutput(VoiceGateway g) {
+        int[] samples = {1600, -1600, 2, 3, 4, 5, 6, 7, 8, 9, 10, 11, 12, 13, 14, 15};
+        for (int i = 0; i < 4; i++) {
+            bring(g, 5 * i, 80 * i, false, samples);
+            playTimes(g, i < 3 ? 5 : 1);
+        }
+    }
+
+    /** Leads the sender's coding 2 to an index and tells value and index then; the line is empty afterwards. */
+    static int[] leadTo(VoiceGateway g, int index) {
+        int[] state = {0, 0};
+        int pairs = 0;
+        while (state[1] != index) {
+            for (int i = 0; i < 2; i++) {
+                boolean up = state[1] < index;
+                int t = Model.STEPS[state[1]];
+                int x = state[0] + (up ? state[0] > 0 ? -t : t : 0);
+                state = Model.changed(state, Model.halfByte(state, x));
+                g.feed(x);
+            }
+            pairs++;
+            g.send(2, 2, false);
+            g.disturb(0, 0);
+            if (pairs > 100) {
+                throw new IllegalStateException("index " + index + " is not reached");
+            }
+        }
+        return state;
+    }
+
+    static void loseLine(VoiceGateway g) {
+        for (int i = 0; i < 8; i++) {
+            g.disturb(0, 0);
+        }
+    }
+
+    /** Leaves input and line without anything: any number below 80 is made of these. */
+    static void loseInput(VoiceGateway g) {
+        loseLine(g);
+        for (int n : new int[] {16, 16, 16, 16, 8, 4, 2, 1}) {
+            if (g.send(3, n, false) > 0) {
+                g.disturb(0, 0);
+            }
+        }
+    }
+
+    static void loseOutput(VoiceGateway g) {
+        loseInput(g);
+        for (int i = 0; i < 4; i++) {
+            g.pass(Math.min(64, g.output()));
+            loseInput(g);
+        }
+    }
+
     static String bytes(VoiceGateway g, int k) {
         StringBuilder text = new StringBuilder();
-        for (int i = 0; g.byteAt(k, i) != VoiceGateway.BAD; i++) {
-            text.append(i == 0 ? "" : " ").append(g.byteAt(k, i));
+        int b = g.byteAt(k, 0);
+        for (int i = 1; b != VoiceGateway.BAD; i++) {
+            text.append(i == 1 ? "" : " ").append(b);
+            b = g.byteAt(k, i);
+        }
+        return text.toString();
+    }
+
+    static String lineOf(VoiceGateway g) {
+        StringBuilder text = new StringBuilder();
+        int n = g.line();
+        for (int k = 0; k < n; k++) {
+            text.append("[").append(bytes(g, k)).append("]");
         }
         return text.toString();
     }
 
     static String outputOf(VoiceGateway g) {
         StringBuilder text = new StringBuilder();
-        for (int i = 0; i < g.output(); i++) {
+        int n = g.output();
+        for (int i = 0; i < n; i++) {
             text.append(i == 0 ? "" : " ").append(g.sample(i));
         }
         return text.toString();
@@ -67,14 +183,5 @@ final class Calls {
             text.append(k == 0 ? "" : " ").append(g.figure(k));
         }
         return text.toString();
-    }
-
-    /** All that can be asked: figures, line with its bytes, output with its samples. */
-    static String state(VoiceGateway g) {
-        StringBuilder text = new StringBuilder("figures " + figures(g) + "; line " + g.line());
-        for (int k = 0; k < g.line(); k++) {
-            text.append(" [").append(bytes(g, k)).append("]");
-        }
-        return text.append("; output ").append(g.output()).append(" [").append(outputOf(g)).append("]").toString();
     }
 }

@@ -3,6 +3,25 @@ final class Check {
     private int asked = 0;
     private int wrong = 0;
 
+    /** The test of one sentence of the document, named by the words of the sentence. */
+    void sentence(String words, Runnable test) {
+        int askedBefore = asked;
+        int wrongBefore = wrong;
+        try {
+            test.run();
+        } catch (RuntimeException e) {
+            wrong++;
+            System.out.println("thrown: " + e);
+        }
+        if (asked == askedBefore) {
+            wrong++;
+            System.out.println("nothing was asked");
+        }
+        if (wrong != wrongBefore) {
+            System.out.println("does not hold: \"" + words + "\"");
+        }
+    }
+
     void due(String call, long got, long want) {
         asked++;
         if (got != want) {

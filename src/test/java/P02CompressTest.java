@@ -7,7 +7,9 @@ public final class P02CompressTest {
         ordinary();
         beginnings();
         everySample();
-        wrongInputs();
+        CHECK.sentence("BAD when coding is another one", P02CompressTest::anotherCoding);
+        CHECK.sentence("BAD when x is no sample", P02CompressTest::noSample);
+        CHECK.sentence("... and nothing is changed by any of it", P02CompressTest::changesNothing);
         CHECK.end();
     }
 
@@ -66,13 +68,30 @@ public final class P02CompressTest {
         }
     }
 
-    private static void wrongInputs() {
+    private static void anotherCoding() {
         for (int coding : new int[] {-1, 2, 3, 4, Integer.MIN_VALUE, Integer.MAX_VALUE}) {
             due(coding, 0, VoiceGateway.BAD);
+            due(coding, -32768, VoiceGateway.BAD);
+            due(coding, 32768, VoiceGateway.BAD);
         }
-        for (int x : new int[] {-32769, 32768, Integer.MIN_VALUE, Integer.MAX_VALUE}) {
+        due(0, 0, 213);
+        due(1, 0, 255);
+    }
+
+    private static void noSample() {
+        for (int x : new int[] {-32769, 32768, 65535, 65536, Integer.MIN_VALUE, Integer.MAX_VALUE}) {
             due(0, x, VoiceGateway.BAD);
             due(1, x, VoiceGateway.BAD);
         }
+        due(0, -32768, 42);
+        due(0, 32767, 170);
+        due(1, -32768, 0);
+        due(1, 32767, 128);
+    }
+
+    private static void changesNothing() {
+        Twins.due(CHECK, "compress(0, 30000)", 168, Calls::busy, g -> g.compress(0, 30000));
+        Twins.due(CHECK, "compress(2, 0)", VoiceGateway.BAD, Calls::busy, g -> g.compress(2, 0));
+        Twins.due(CHECK, "compress(1, 32768)", VoiceGateway.BAD, Calls::busy, g -> g.compress(1, 32768));
     }
 }

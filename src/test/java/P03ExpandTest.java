@@ -6,7 +6,9 @@ public final class P03ExpandTest {
         ordinary();
         everyCode();
         everyCodeComesBack();
-        wrongInputs();
+        CHECK.sentence("40000 when coding is another one", P03ExpandTest::anotherCoding);
+        CHECK.sentence("40000 when code is not 0 .. 255", P03ExpandTest::noCode);
+        CHECK.sentence("... and nothing is changed by any of it", P03ExpandTest::changesNothing);
         CHECK.end();
     }
 
@@ -52,13 +54,30 @@ public final class P03ExpandTest {
         }
     }
 
-    private static void wrongInputs() {
+    private static void anotherCoding() {
         for (int coding : new int[] {-1, 2, 3, 4, Integer.MIN_VALUE, Integer.MAX_VALUE}) {
             due(coding, 0, 40000);
+            due(coding, 255, 40000);
+            due(coding, 256, 40000);
         }
-        for (int code : new int[] {-1, 256, Integer.MIN_VALUE, Integer.MAX_VALUE}) {
+        due(0, 0, -5504);
+        due(1, 0, -32124);
+    }
+
+    private static void noCode() {
+        for (int code : new int[] {-1, 256, 257, -256, Integer.MIN_VALUE, Integer.MAX_VALUE}) {
             due(0, code, 40000);
             due(1, code, 40000);
         }
+        due(0, 0, -5504);
+        due(0, 255, 848);
+        due(1, 0, -32124);
+        due(1, 255, 0);
+    }
+
+    private static void changesNothing() {
+        Twins.due(CHECK, "expand(1, 128)", 32124, Calls::busy, g -> g.expand(1, 128));
+        Twins.due(CHECK, "expand(2, 0)", 40000, Calls::busy, g -> g.expand(2, 0));
+        Twins.due(CHECK, "expand(0, 256)", 40000, Calls::busy, g -> g.expand(0, 256));
     }
 }

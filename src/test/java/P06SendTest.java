@@ -8,9 +8,15 @@ public final class P06SendTest {
         codingTwoAtItsEdges();
         codesOfTheFirstStep();
         everyStepOfCodingTwo();
-        sequenceAndTimeWrap();
-        lengths();
-        orderOfRefusals();
+        CHECK.sentence("Takes the first n samples from the input", P06SendTest::takesTheFirst);
+        CHECK.sentence("puts a packet of them at the end of the line: its length", P06SendTest::lengths);
+        CHECK.sentence("The next sequence grows by 1 then (from 65535 to 0)", P06SendTest::sequenceWraps);
+        CHECK.sentence("the time by n (wrapping)", P06SendTest::timeWraps);
+        CHECK.sentence("BAD when coding is not 0 .. 3", P06SendTest::noCoding);
+        CHECK.sentence("BAD when n is not 1 .. 16", P06SendTest::noNumber);
+        CHECK.sentence("BAD when n is odd with coding 2", P06SendTest::oddNumber);
+        CHECK.sentence("else EMPTY when the input has fewer", P06SendTest::fewer);
+        CHECK.sentence("else FULL", P06SendTest::full);
         CHECK.end();
     }
 
@@ -97,8 +103,8 @@ public final class P06SendTest {
 
     private static void oneCodeAt(int index, int off) {
         VoiceGateway g = new VoiceGateway();
-        int[] state = driveTo(g, index);
-        CHECK.due("driven to index " + index, g.figure(11), index);
+        int[] state = Calls.leadTo(g, index);
+        CHECK.due("led to index " + index, g.figure(11), index);
         int x = Math.max(-32768, Math.min(32767, state[0] + off));
         int code = Model.halfByte(state, x);
         state = Model.changed(state, code);
@@ -110,75 +116,150 @@ public final class P06SendTest {
         CHECK.due("its index", g.figure(11), state[1]);
     }
 
-    /** Codes 4 raise the index by 2, codes 0 .. 3 let it fall by 1; the line is empty afterwards. */
-    private static int[] driveTo(VoiceGateway g, int index) {
-        int[] state = {0, 0};
-        int pairs = 0;
-        while (state[1] != index) {
-            for (int i = 0; i < 2; i++) {
-                boolean up = state[1] < index;
-                int t = Model.STEPS[state[1]];
-                int x = state[0] + (up ? state[0] > 0 ? -t : t : 0);
-                state = Model.changed(state, Model.halfByte(state, x));
-                g.feed(x);
-            }
-            pairs++;
-            g.send(2, 2, false);
-            g.disturb(0, 0);
-            if (pairs > 100) {
-                throw new IllegalStateException("index " + index + " is not reached");
-            }
-        }
-        return state;
-    }
-
-    private static void sequenceAndTimeWrap() {
+    private static void takesTheFirst() {
         VoiceGateway g = new VoiceGateway();
-        g.begin(65535, Integer.MAX_VALUE, 0);
-        Calls.sendOne(g, 1, 0, 0, 0);
-        CHECK.due("next sequence", g.figure(12), 0);
-        Calls.sendOne(g, 1, 0);
-        CHECK.due("before", Calls.bytes(g, 0), "128 0 255 255 127 255 255 255 0 0 0 0 255 255 255");
-        CHECK.due("behind", Calls.bytes(g, 1), "128 0 0 0 128 0 0 2 0 0 0 0 255");
-        CHECK.due("next sequence", g.figure(12), 1);
+        Calls.feedAll(g, 1, 2, 3, 4, 5, 6);
+        CHECK.due("two of six", g.send(3, 2, false), 16);
+        CHECK.due("one of four", g.send(3, 1, false), 14);
+        CHECK.due("all three", g.send(3, 3, false), 18);
+        CHECK.due("none is left", g.send(3, 1, false), VoiceGateway.EMPTY);
+        CHECK.due("line", Calls.lineOf(g), "[128 11 0 0 0 0 0 0 0 0 0 0 0 1 0 2]"
+                + "[128 11 0 1 0 0 0 2 0 0 0 0 0 3][128 11 0 2 0 0 0 3 0 0 0 0 0 4 0 5 0 6]");
     }
 
     private static void lengths() {
         for (int coding = 0; coding < 4; coding++) {
             for (int n = 1; n <= 16; n++) {
                 VoiceGateway g = new VoiceGateway();
+                Calls.sendOne(g, 3, 9);
                 Calls.feedAll(g, new int[16]);
                 int want = 12 + (coding == 3 ? 2 * n : n);
                 if (coding == 2) {
                     want = n % 2 == 1 ? VoiceGateway.BAD : 16 + n / 2;
                 }
                 CHECK.due("send(" + coding + ", " + n + ", false)", g.send(coding, n, false), want);
-                CHECK.due("packets then", g.line(), want < 0 ? 0 : 1);
+                CHECK.due("packets then", g.line(), want < 0 ? 1 : 2);
+                CHECK.due("its last byte is there", g.byteAt(1, want - 1) >= 0, want > 0);
+                CHECK.due("and none behind it", g.byteAt(1, want), VoiceGateway.BAD);
             }
         }
     }
 
-    private static void orderOfRefusals() {
+    private static void sequenceWraps() {
         VoiceGateway g = new VoiceGateway();
-        refusedAsBad(g, "without samples");
-        Calls.sendRun(g, 0, 8);
-        refusedAsBad(g, "on a full line");
-        String before = Calls.state(g);
-        CHECK.due("EMPTY before FULL", g.send(0, 1, false), VoiceGateway.EMPTY);
-        Calls.feedAll(g, 41, 42);
-        CHECK.due("FULL", g.send(2, 2, true), VoiceGateway.FULL);
-        CHECK.due("FULL", g.send(3, 2, true), VoiceGateway.FULL);
-        CHECK.due("nothing has changed", Calls.state(g), before);
-        g.receive();
-        CHECK.due("the samples and the time too", g.send(3, 2, false), 16);
-        CHECK.due("packet", Calls.bytes(g, 7), "128 11 0 8 0 0 0 8 0 0 0 1 0 41 0 42");
+        g.begin(65534, 0, 0);
+        for (int sequence : new int[] {65534, 65535, 0, 1}) {
+            CHECK.due("next sequence", g.figure(12), sequence);
+            Calls.sendOne(g, 1, 0, 0, 0);
+            int k = g.line() - 1;
+            CHECK.due("packet's sequence", 256 * g.byteAt(k, 2) + g.byteAt(k, 3), sequence);
+        }
+        CHECK.due("next sequence at last", g.figure(12), 2);
+        for (int coding = 0; coding < 4; coding++) {
+            VoiceGateway wraps = new VoiceGateway();
+            wraps.begin(65535, 0, 0);
+            Calls.sendOne(wraps, coding, 5, 5);
+            CHECK.due("coding " + coding, wraps.figure(12), 0);
+        }
     }
 
-    private static void refusedAsBad(VoiceGateway g, String when) {
-        int[][] wrong = {{-1, 1}, {4, 1}, {0, 0}, {1, -1}, {3, 17}, {2, 0}, {2, 1}, {2, 15}, {2, 18},
-            {Integer.MAX_VALUE, 1}, {Integer.MIN_VALUE, 1}, {0, Integer.MAX_VALUE}, {0, Integer.MIN_VALUE}};
-        for (int[] w : wrong) {
-            CHECK.due("send(" + w[0] + ", " + w[1] + ", false) " + when, g.send(w[0], w[1], false), VoiceGateway.BAD);
+    private static void timeWraps() {
+        VoiceGateway g = new VoiceGateway();
+        g.begin(0, Integer.MAX_VALUE, 0);
+        Calls.sendOne(g, 1, 0, 0, 0);
+        Calls.sendOne(g, 1, 0);
+        CHECK.due("before", Calls.bytes(g, 0), "128 0 0 0 127 255 255 255 0 0 0 0 255 255 255");
+        CHECK.due("behind", Calls.bytes(g, 1), "128 0 0 1 128 0 0 2 0 0 0 0 255");
+        g.begin(0, -1, 0);
+        Calls.sendOne(g, 2, 0, 0);
+        Calls.sendOne(g, 0, 0);
+        Calls.sendOne(g, 3, new int[16]);
+        Calls.sendOne(g, 1, 0);
+        CHECK.due("time -1", Calls.bytes(g, 2).substring(10, 25), "255 255 255 255");
+        CHECK.due("time 1", Calls.bytes(g, 3), "128 8 0 1 0 0 0 1 0 0 0 0 213");
+        CHECK.due("time 18", Calls.bytes(g, 5), "128 0 0 3 0 0 0 18 0 0 0 0 255");
+    }
+
+    /** Refused as BAD, also where the input has fewer, or the line is full, or both; nothing is changed. */
+    private static void dueBad(int coding, int n) {
+        String call = "send(" + coding + ", " + n + ", ..)";
+        Twins.due(CHECK, call, VoiceGateway.BAD, P06SendTest::sixteenFed, g -> g.send(coding, n, true));
+        Twins.due(CHECK, call + ", busy", VoiceGateway.BAD, Calls::busy, g -> g.send(coding, n, false));
+        Twins.due(CHECK, call + " before EMPTY", VoiceGateway.BAD, g -> { }, g -> g.send(coding, n, false));
+        Twins.due(CHECK, call + " before FULL", VoiceGateway.BAD, P06SendTest::fullLineAndInput,
+                g -> g.send(coding, n, false));
+        Twins.due(CHECK, call + " before EMPTY and FULL", VoiceGateway.BAD, g -> Calls.sendRun(g, 0, 8),
+                g -> g.send(coding, n, false));
+    }
+
+    private static void sixteenFed(VoiceGateway g) {
+        for (int i = 0; i < 16; i++) {
+            g.feed(1000 * i);
         }
+    }
+
+    private static void fullLineAndInput(VoiceGateway g) {
+        Calls.sendRun(g, 65530, 8);
+        for (int i = 0; i < 64; i++) {
+            g.feed(i);
+        }
+    }
+
+    private static void noCoding() {
+        for (int coding : new int[] {-1, 4, 5, 8, 11, Integer.MIN_VALUE, Integer.MAX_VALUE}) {
+            dueBad(coding, 2);
+        }
+        dueBad(4, 17);
+        dueBad(-1, 0);
+    }
+
+    private static void noNumber() {
+        for (int n : new int[] {0, -1, -2, 17, 18, 64, 65, Integer.MIN_VALUE, Integer.MAX_VALUE}) {
+            for (int coding = 0; coding < 4; coding++) {
+                dueBad(coding, n);
+            }
+        }
+    }
+
+    private static void oddNumber() {
+        for (int n = 1; n <= 17; n += 2) {
+            dueBad(2, n);
+        }
+    }
+
+    private static void fewer() {
+        VoiceGateway g = new VoiceGateway();
+        Calls.feedAll(g, 1, 2, 3, 4, 5);
+        for (int coding = 0; coding < 4; coding++) {
+            int c = coding;
+            Twins.due(CHECK, "6 of 5, coding " + c, VoiceGateway.EMPTY,
+                    x -> Calls.feedAll(x, 1, 2, 3, 4, 5), x -> x.send(c, 6, true));
+            Twins.due(CHECK, "4 of 3, coding " + c, VoiceGateway.EMPTY, Calls::busy, x -> x.send(c, 4, true));
+            Twins.due(CHECK, "2 of 0 before FULL, coding " + c, VoiceGateway.EMPTY,
+                    x -> Calls.sendRun(x, 0, 8), x -> x.send(c, 2, false));
+            Twins.due(CHECK, "16 of 15, coding " + c, VoiceGateway.EMPTY,
+                    x -> Calls.feedAll(x, new int[15]), x -> x.send(c, 16, false));
+        }
+        CHECK.due("6 of 5", g.send(3, 6, false), VoiceGateway.EMPTY);
+        CHECK.due("5 of 5", g.send(3, 5, false), 22);
+        CHECK.due("1 of 0", g.send(3, 1, false), VoiceGateway.EMPTY);
+    }
+
+    private static void full() {
+        for (int coding = 0; coding < 4; coding++) {
+            int c = coding;
+            Twins.due(CHECK, "2 on a full line, coding " + c, VoiceGateway.FULL,
+                    P06SendTest::fullLineAndInput, x -> x.send(c, 2, true));
+            Twins.due(CHECK, "16 on a full line, coding " + c, VoiceGateway.FULL,
+                    P06SendTest::fullLineAndInput, x -> x.send(c, 16, false));
+        }
+        VoiceGateway g = new VoiceGateway();
+        Calls.sendRun(g, 0, 7);
+        Calls.feedAll(g, 41, 42);
+        CHECK.due("the eighth", g.send(3, 1, false), 14);
+        CHECK.due("the ninth", g.send(3, 1, false), VoiceGateway.FULL);
+        g.receive();
+        CHECK.due("with room", g.send(3, 1, false), 14);
+        CHECK.due("sequence, time and sample wait for it", Calls.bytes(g, 7), "128 11 0 8 0 0 0 8 0 0 0 1 0 42");
     }
 }

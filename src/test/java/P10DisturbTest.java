@@ -1,13 +1,19 @@
+import java.util.function.Consumer;
+
 /** Promise 10: disturb. */
 public final class P10DisturbTest {
     private static final Check CHECK = new Check();
 
     public static void main(String[] args) {
-        losing();
-        exchanging();
-        doubling();
-        cutting();
-        wrongInputs();
+        CHECK.sentence("how = 0: it is lost", P10DisturbTest::losing);
+        CHECK.sentence("1: it is exchanged with the one behind it", P10DisturbTest::exchanging);
+        CHECK.sentence("2: it comes once more at the end of the line", P10DisturbTest::doubling);
+        CHECK.sentence("3: its last byte is cut off", P10DisturbTest::cutting);
+        CHECK.sentence("false, changing nothing, when there is no such packet", P10DisturbTest::noPacket);
+        CHECK.sentence("false, changing nothing, when how is not 0 .. 3", P10DisturbTest::noHow);
+        CHECK.sentence("false, changing nothing, when there is none behind it (1)", P10DisturbTest::noneBehind);
+        CHECK.sentence("false, changing nothing, when the line has 8 (2)", P10DisturbTest::lineHas8);
+        CHECK.sentence("false, changing nothing, when it has no byte (3)", P10DisturbTest::hasNoByte);
         CHECK.end();
     }
 
@@ -87,20 +93,65 @@ public final class P10DisturbTest {
         CHECK.due("line()", g.line(), 2);
     }
 
-    private static void wrongInputs() {
-        VoiceGateway none = new VoiceGateway();
-        VoiceGateway g = lineOf(3);
-        String before = Calls.state(g);
+    private static void dueFalse(String when, Consumer<VoiceGateway> past, int k, int how) {
+        Twins.dueFalse(CHECK, "disturb(" + k + ", " + how + ") " + when, past, g -> g.disturb(k, how));
+    }
+
+    private static void noPacket() {
         for (int how = -1; how <= 4; how++) {
-            CHECK.due("disturb(0, " + how + ") on an empty line", none.disturb(0, how), false);
-            for (int k : new int[] {-1, 3, 8, Integer.MIN_VALUE, Integer.MAX_VALUE}) {
-                CHECK.due("disturb(" + k + ", " + how + ")", g.disturb(k, how), false);
+            dueFalse("on an empty line", g -> { }, 0, how);
+            for (int k : new int[] {-1, 2, 3, 7, 8, Integer.MIN_VALUE, Integer.MAX_VALUE}) {
+                dueFalse("of two packets", Calls::busy, k, how);
             }
+            dueFalse("of eight packets", g -> Calls.sendRun(g, 0, 8), 8, how);
+            dueFalse("of eight packets", g -> Calls.sendRun(g, 0, 8), -1, how);
         }
-        for (int how : new int[] {-1, 4, Integer.MIN_VALUE, Integer.MAX_VALUE}) {
-            CHECK.due("disturb(0, " + how + ")", g.disturb(0, how), false);
+    }
+
+    private static void noHow() {
+        for (int how : new int[] {-1, 4, 5, 256, Integer.MIN_VALUE, Integer.MAX_VALUE}) {
+            dueFalse("of two packets", Calls::busy, 0, how);
+            dueFalse("of two packets", Calls::busy, 1, how);
         }
-        CHECK.due("nothing has changed", Calls.state(g), before);
-        CHECK.due("nothing has come", none.line(), 0);
+    }
+
+    private static void noneBehind() {
+        for (int n = 1; n <= 8; n++) {
+            int packets = n;
+            dueFalse("of " + n, g -> Calls.sendRun(g, 0, packets), n - 1, 1);
+        }
+        dueFalse("of two packets", Calls::busy, 1, 1);
+        VoiceGateway g = lineOf(8);
+        CHECK.due("the last but one", g.disturb(6, 1), true);
+        CHECK.due("line", order(g), "01234576");
+    }
+
+    private static void lineHas8() {
+        for (int k = 0; k < 8; k++) {
+            dueFalse("of eight packets", g -> Calls.sendRun(g, 0, 8), k, 2);
+        }
+        dueFalse("when all is full", Calls::fullEverywhere, 3, 2);
+        VoiceGateway g = lineOf(7);
+        CHECK.due("of seven", g.disturb(6, 2), true);
+        CHECK.due("of eight", g.disturb(6, 2), false);
+        CHECK.due("line", order(g), "01234566");
+        g.disturb(0, 0);
+        CHECK.due("of seven again", g.disturb(0, 2), true);
+        CHECK.due("line", order(g), "12345661");
+    }
+
+    private static void withoutBytes(VoiceGateway g) {
+        Calls.sendRun(g, 0, 3);
+        for (int i = 0; i < 14; i++) {
+            CHECK.due("cut " + i, g.disturb(1, 3), true);
+        }
+    }
+
+    private static void hasNoByte() {
+        dueFalse("without a byte", P10DisturbTest::withoutBytes, 1, 3);
+        VoiceGateway g = new VoiceGateway();
+        withoutBytes(g);
+        CHECK.due("its neighbours have some", g.disturb(0, 3) && g.disturb(2, 3), true);
+        CHECK.due("line", Calls.lineOf(g), "[128 11 0 0 0 0 0 0 0 0 0 1 0][][128 11 0 2 0 0 0 2 0 0 0 1 0]");
     }
 }

@@ -3,14 +3,18 @@ public final class P12PrefillTest {
     private static final Check CHECK = new Check();
 
     public static void main(String[] args) {
+        CHECK.sentence("Sets the prefill: true", P12PrefillTest::sets);
+        CHECK.sentence("false, changing nothing, when n is not 1 .. 4", P12PrefillTest::wrongInputs);
+        CHECK.sentence("... while the buffer waits", P12PrefillTest::changedWhileItWaits);
+        CHECK.sentence("... while it plays", P12PrefillTest::changedWhileItPlays);
+        CHECK.sentence("... and when it comes to rest", P12PrefillTest::keptOverRest);
+        CHECK.end();
+    }
+
+    private static void sets() {
         for (int n = 1; n <= 4; n++) {
             playsFrom(n);
         }
-        wrongInputs();
-        changedWhileItWaits();
-        changedWhileItPlays();
-        keptOverRest();
-        CHECK.end();
     }
 
     private static void playsFrom(int n) {
@@ -28,11 +32,22 @@ public final class P12PrefillTest {
     }
 
     private static void wrongInputs() {
+        for (int n : new int[] {0, 5, -1, -4, 256, Integer.MIN_VALUE, Integer.MAX_VALUE}) {
+            Twins.dueFalse(CHECK, "prefill(" + n + ") at first", g -> { }, g -> g.prefill(n));
+            Twins.dueFalse(CHECK, "prefill(" + n + ") when it plays", Calls::busy, g -> g.prefill(n));
+            for (int set = 1; set <= 4; set++) {
+                int before = set;
+                Twins.dueFalse(CHECK, "prefill(" + n + ") behind prefill(" + set + ")", g -> {
+                    g.prefill(before);
+                    Calls.sendRun(g, 0, 2);
+                    Calls.receiveAll(g);
+                }, g -> g.prefill(n));
+            }
+        }
         VoiceGateway g = new VoiceGateway();
         g.prefill(2);
-        for (int n : new int[] {0, 5, -1, Integer.MIN_VALUE, Integer.MAX_VALUE}) {
-            CHECK.due("prefill(" + n + ")", g.prefill(n), false);
-        }
+        CHECK.due("prefill(0)", g.prefill(0), false);
+        CHECK.due("prefill(5)", g.prefill(5), false);
         Calls.sendRun(g, 0, 2);
         g.receive();
         CHECK.due("it is still above 1", g.play(), VoiceGateway.EMPTY);

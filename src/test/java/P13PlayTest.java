@@ -1,25 +1,183 @@
+import java.util.function.Consumer;
+
 /** Promise 13: play. */
 public final class P13PlayTest {
     private static final Check CHECK = new Check();
 
     public static void main(String[] args) {
-        expandsAllCodings();
-        expandsCodingTwoByItsHead();
-        expandsEveryCodeOfEveryIndex();
-        putsInOrder();
-        concealsTowardsZero();
-        concealsAfterEveryCoding();
-        concealsAgainFromTheNewLastOnes();
-        comesToRest();
-        dropsItsPackets();
-        countsJumps();
-        expectsOverLosses();
-        expectsOverTheEnd();
-        refusesAsFull();
-        refusesAsFullWhileItWaits();
-        refusesLossesAsFull();
-        sequencesWrap();
+        CHECK.sentence("Plays one packet: how many samples are put at the end of the output", P13PlayTest::howMany);
+        CHECK.sentence("EMPTY, when the buffer is at rest", P13PlayTest::emptyAtRest);
+        CHECK.sentence("EMPTY, when it waits and has fewer packets than the prefill says", P13PlayTest::emptyWhileItWaits);
+        CHECK.sentence("If the packet with the next sequence is there, it is taken out", P13PlayTest::putsInOrder);
+        CHECK.sentence("... and expanded", P13PlayTest::expandsAllCodings);
+        CHECK.sentence("... by its own value and index", P13PlayTest::expandsCodingTwoByItsHead);
+        CHECK.sentence("... for every index and code", P13PlayTest::expandsEveryCodeOfEveryIndex);
+        CHECK.sentence("its samples are put out, and are the LAST ones", P13PlayTest::theLastOnes);
+        CHECK.sentence("If its mark is not set, ..., a JUMP is counted", P13PlayTest::noJumpWithTheMark);
+        CHECK.sentence("If ..., something was played before in this run (since the buffer was at rest), ..., a JUMP is counted",
+                P13PlayTest::noJumpAtFirst);
+        CHECK.sentence("If ... its time is not what was expected, a JUMP is counted", P13PlayTest::countsJumps);
+        CHECK.sentence("expected is its time and its samples' number from now on", P13PlayTest::expectsFromNowOn);
+        CHECK.sentence("... wrapping, as times do", P13PlayTest::expectsOverTheEnd);
+        CHECK.sentence("Otherwise it is LOST: as many samples as the last ones are put out", P13PlayTest::asManyAsTheLast);
+        CHECK.sentence("each of these divided by 2^i, rounded towards 0", P13PlayTest::concealsTowardsZero);
+        CHECK.sentence("... behind packets of every coding", P13PlayTest::concealsAfterEveryCoding);
+        CHECK.sentence("i being how many were lost one after the other, this one included",
+                P13PlayTest::concealsAgainFromTheNewLastOnes);
+        CHECK.sentence("the expected time grows by their number", P13PlayTest::expectsOverLosses);
+        CHECK.sentence("When i would be 5, nothing is put out instead (the answer is 0), the buffer comes to rest",
+                P13PlayTest::comesToRest);
+        CHECK.sentence("... and its packets are dropped", P13PlayTest::dropsItsPackets);
+        CHECK.sentence("... 5 and not 4 or 6", P13PlayTest::fourLossesAreFine);
+        CHECK.sentence("In all cases but the last the next sequence grows by 1 (from 65535 to 0)",
+                P13PlayTest::sequencesWrap);
+        CHECK.sentence("Refused as FULL, changing nothing, when the output would have more than 256 samples",
+                P13PlayTest::refusesAsFull);
+        CHECK.sentence("... a packet", P13PlayTest::packetsUpTo256);
+        CHECK.sentence("... a loss", P13PlayTest::lossesUpTo256);
+        CHECK.sentence("... the first packet of a run", P13PlayTest::refusesAsFullWhileItWaits);
+        CHECK.sentence("looked at behind EMPTY", P13PlayTest::emptyBeforeFull);
+        CHECK.sentence("for the number of samples that would be put out", P13PlayTest::numberThatWouldBePutOut);
         CHECK.end();
+    }
+
+    private static void howMany() {
+        for (int n = 1; n <= 16; n++) {
+            VoiceGateway g = new VoiceGateway();
+            Calls.bring(g, 0, 0, false, 7, 8);
+            g.play();
+            int[] samples = new int[n];
+            samples[n - 1] = n;
+            Calls.bring(g, 1, 2, false, samples);
+            CHECK.due("play()", g.play(), n);
+            CHECK.due("output()", g.output(), 2 + n);
+            CHECK.due("the ones before", g.sample(0) + " " + g.sample(1), "7 8");
+            CHECK.due("the last one", g.sample(1 + n), n);
+        }
+    }
+
+    private static void emptyAtRest() {
+        Twins.due(CHECK, "play() at first", VoiceGateway.EMPTY, g -> { }, VoiceGateway::play);
+        Twins.due(CHECK, "play() with packets on the line", VoiceGateway.EMPTY,
+                g -> Calls.sendRun(g, 0, 3), VoiceGateway::play);
+        Twins.due(CHECK, "play() at rest again", VoiceGateway.EMPTY, g -> {
+            Calls.busy(g);
+            Calls.playTimes(g, 7);
+            CHECK.due("state", g.figure(0), 0);
+        }, VoiceGateway::play);
+    }
+
+    private static void emptyWhileItWaits() {
+        for (int prefill = 2; prefill <= 4; prefill++) {
+            for (int has = 1; has < prefill; has++) {
+                int asked = prefill;
+                int packets = has;
+                Twins.due(CHECK, "play() with " + has + " of " + prefill, VoiceGateway.EMPTY, g -> {
+                    g.prefill(asked);
+                    Calls.sendRun(g, 65535, packets);
+                    Calls.receiveAll(g);
+                }, VoiceGateway::play);
+            }
+        }
+        VoiceGateway g = new VoiceGateway();
+        g.prefill(2);
+        Calls.sendRun(g, 5, 2);
+        g.disturb(0, 2);
+        g.disturb(1, 1);
+        g.receive();
+        g.receive();
+        CHECK.due("a packet that came twice is one", g.play(), VoiceGateway.EMPTY);
+        g.receive();
+        CHECK.due("two", g.play(), 1);
+        Calls.playTimes(g, 1);
+        CHECK.due("what plays needs none", g.play(), 1);
+        CHECK.due("which was a loss", g.figure(8), 1);
+    }
+
+    private static void theLastOnes() {
+        VoiceGateway g = new VoiceGateway();
+        Calls.bring(g, 0, 0, false, 64, 640);
+        Calls.bring(g, 2, 4, false, 6400, -64, 32);
+        Calls.playTimes(g, 4);
+        CHECK.due("output", Calls.outputOf(g), "64 640 32 320 6400 -64 32 3200 -32 16");
+    }
+
+    private static void noJumpWithTheMark() {
+        for (int off : new int[] {-1, 1, 1000, Integer.MIN_VALUE}) {
+            VoiceGateway g = new VoiceGateway();
+            dueJumps(g, 0, 500, false, 0);
+            dueJumps(g, 1, 502 + off, true, 0);
+            dueJumps(g, 2, 504 + off, false, 0);
+            dueJumps(g, 3, 506, false, 1);
+            dueJumps(g, 4, 508, true, 1);
+        }
+    }
+
+    private static void noJumpAtFirst() {
+        for (int time : new int[] {0, 1, -1, 77, Integer.MAX_VALUE, Integer.MIN_VALUE}) {
+            VoiceGateway g = new VoiceGateway();
+            dueJumps(g, 9, time, false, 0);
+            dueJumps(g, 10, time, false, 1);
+            Calls.playTimes(g, 5);
+            CHECK.due("at rest", g.figure(0), 0);
+            dueJumps(g, 11, time + 3, false, 1);
+            dueJumps(g, 12, time, false, 2);
+        }
+        VoiceGateway g = new VoiceGateway();
+        dueJumps(g, 0, 0, false, 0);
+        g.play();
+        dueJumps(g, 2, 5, false, 1);
+    }
+
+    private static void expectsFromNowOn() {
+        for (int n = 1; n <= 16; n++) {
+            for (int off = -1; off <= 1; off++) {
+                VoiceGateway g = new VoiceGateway();
+                Calls.bring(g, 0, 300, false, new int[n]);
+                Calls.bring(g, 1, 300 + n + off, false, 1);
+                Calls.playTimes(g, 2);
+                CHECK.due(n + " samples, off by " + off, g.figure(9), off == 0 ? 0 : 1);
+                Calls.bring(g, 2, 301 + n + off, false, 1);
+                g.play();
+                CHECK.due("from the jump on", g.figure(9), off == 0 ? 0 : 1);
+            }
+        }
+    }
+
+    private static void asManyAsTheLast() {
+        for (int n = 1; n <= 16; n++) {
+            VoiceGateway g = new VoiceGateway();
+            Calls.bring(g, 0, 0, false, 1, 2, 3);
+            Calls.bring(g, 1, 3, false, new int[n]);
+            Calls.playTimes(g, 2);
+            for (int i = 1; i <= 4; i++) {
+                CHECK.due("loss " + i, g.play(), n);
+                CHECK.due("output()", g.output(), 3 + n + i * n);
+                CHECK.due("lost", g.figure(8), i);
+            }
+        }
+    }
+
+    private static void fourLossesAreFine() {
+        for (int losses = 0; losses <= 4; losses++) {
+            VoiceGateway g = new VoiceGateway();
+            Calls.bring(g, 0, 0, false, 160);
+            Calls.bring(g, losses + 1, losses + 1, false, 7);
+            Calls.playTimes(g, 1 + losses);
+            CHECK.due("it plays", g.figure(0), 2);
+            CHECK.due("the packet behind " + losses + " losses", g.play(), 1);
+            CHECK.due("its sample", g.sample(losses + 1), 7);
+            CHECK.due("without a jump", g.figure(9), 0);
+        }
+        for (int behind = 6; behind <= 7; behind++) {
+            VoiceGateway g = new VoiceGateway();
+            Calls.bring(g, 0, 0, false, 160);
+            Calls.bring(g, behind, behind, false, 7);
+            Calls.playTimes(g, 5);
+            CHECK.due("the fifth loss", g.play(), 0);
+            CHECK.due("at rest", g.figure(0), 0);
+            CHECK.due("and no more", g.play(), VoiceGateway.EMPTY);
+        }
     }
 
     private static void expandsAllCodings() {
@@ -224,80 +382,165 @@ public final class P13PlayTest {
         dueJumps(g, 3, 0, false, 0);
     }
 
-    /** Plays packets of 16 samples until the output has 240, leaving the given ones in the buffer. */
-    private static VoiceGateway nearlyFull(int... waiting) {
-        VoiceGateway g = new VoiceGateway();
-        for (int i = 0; i < 15; i++) {
-            Calls.bring(g, i, 16 * i, false, new int[16]);
-            g.play();
-        }
-        for (int i = 0; i < waiting.length; i++) {
-            Calls.bring(g, 15 + i, 7000, false, new int[waiting[i]]);
-        }
-        return g;
+    /** An output with so many samples, at least 192, and an empty input; the buffer plays, its next one is 16. */
+    private static void filled(VoiceGateway g, int samples) {
+        Calls.fullOutput(g);
+        g.pass(256 - samples);
+        Calls.loseInput(g);
+    }
+
+    private static void dueFull(String what, Consumer<VoiceGateway> past) {
+        Twins.due(CHECK, what, VoiceGateway.FULL, past, VoiceGateway::play);
     }
 
     private static void refusesAsFull() {
-        VoiceGateway g = nearlyFull(16, 1);
-        CHECK.due("output()", g.output(), 240);
-        CHECK.due("up to 256", g.play(), 16);
-        String before = Calls.figures(g);
-        CHECK.due("one more", g.play(), VoiceGateway.FULL);
-        CHECK.due("nothing has changed", Calls.figures(g), before);
-        CHECK.due("nor the output", g.output(), 256);
-        g.pass(1);
-        CHECK.due("with room", g.play(), 1);
-        CHECK.due("its jump is counted once", g.figure(9), 2);
-        VoiceGateway small = nearlyFull(1, 16);
-        small.play();
-        CHECK.due("241 and 16", small.play(), VoiceGateway.FULL);
+        dueFull("256 and a packet of 1", g -> {
+            filled(g, 256);
+            Calls.bring(g, 16, 256, false, 5);
+        });
+        dueFull("256 and a packet of 16 with a jump", g -> {
+            filled(g, 256);
+            Calls.bring(g, 16, 999, false, new int[16]);
+            Calls.bring(g, 17, 1015, false, 3);
+        });
+        dueFull("255 and a packet of coding 2", g -> {
+            filled(g, 255);
+            g.begin(16, 0, 1);
+            Calls.sendOne(g, 2, 500, 600);
+            g.receive();
+        });
+        dueFull("a loss of 16", g -> filled(g, 241));
+        for (int losses = 1; losses <= 3; losses++) {
+            int before = losses;
+            dueFull("256 behind " + losses + " losses", g -> {
+                filled(g, 256 - 16 * before);
+                Calls.playTimes(g, before);
+                CHECK.due("output()", g.output(), 256);
+                Calls.bring(g, 16 + before + 1, 256 + 16 * before + 16, false, 800, 900);
+            });
+        }
+        dueFull("256 and a new run", P13PlayTest::newRunWhenFull);
+        dueFull("everything is full", Calls::fullEverywhere);
     }
 
-    private static void refusesAsFullWhileItWaits() {
-        VoiceGateway g = nearlyFull();
-        Calls.bring(g, 15, 240, false, new int[16]);
-        g.play();
-        CHECK.due("output()", g.output(), 256);
-        g.pass(64);
-        for (int i = 0; i < 4; i++) {
-            CHECK.due("a loss", g.play(), 16);
-        }
-        CHECK.due("the fifth needs no room", g.play(), 0);
-        CHECK.due("at rest, EMPTY before FULL", g.play(), VoiceGateway.EMPTY);
-        for (int i = 0; i < 4; i++) {
-            g.send(3, 16, false);
-            g.disturb(0, 0);
-        }
-        CHECK.due("a new run", Calls.bring(g, 99, 0, false, 5), 0);
-        CHECK.due("no room", g.play(), VoiceGateway.FULL);
-        CHECK.due("it still waits", g.figure(0), 1);
-        g.prefill(2);
-        CHECK.due("EMPTY before FULL", g.play(), VoiceGateway.EMPTY);
-        g.prefill(1);
-        g.pass(1);
-        CHECK.due("with room", g.play(), 1);
-        CHECK.due("it plays", g.figure(0), 2);
-        CHECK.due("no jump", g.figure(9), 0);
+    private static void newRunWhenFull(VoiceGateway g) {
+        filled(g, 192);
+        Calls.playTimes(g, 5);
+        CHECK.due("at rest", g.figure(0), 0);
+        Calls.bring(g, 99, 12345, false, 5, 6);
     }
 
-    private static void refusesLossesAsFull() {
-        VoiceGateway g = nearlyFull(9);
+    private static void packetsUpTo256() {
+        for (int n : new int[] {1, 2, 9, 15, 16}) {
+            for (int before = 256 - n - 1; before <= 256 - n + 1; before++) {
+                VoiceGateway g = new VoiceGateway();
+                filled(g, before);
+                Calls.bring(g, 16, 7000, false, new int[n]);
+                boolean fits = before + n <= 256;
+                CHECK.due(before + " and " + n, g.play(), fits ? n : VoiceGateway.FULL);
+                CHECK.due("output()", g.output(), fits ? before + n : before);
+                CHECK.due("jumps", g.figure(9), fits ? 1 : 0);
+                CHECK.due("packets", g.figure(1), fits ? 0 : 1);
+                CHECK.due("next", g.figure(2), fits ? 17 : 16);
+                if (!fits) {
+                    g.pass(1);
+                    CHECK.due("with room", g.play(), n);
+                    CHECK.due("its jump is counted once", g.figure(9), 1);
+                }
+            }
+        }
+    }
+
+    private static void lossesUpTo256() {
+        for (int n : new int[] {1, 2, 9, 16}) {
+            for (int before = 256 - n - 1; before <= 256 - n + 1; before++) {
+                VoiceGateway g = new VoiceGateway();
+                filled(g, before - n);
+                Calls.bring(g, 16, 256, false, new int[n]);
+                CHECK.due("the last ones", g.play(), n);
+                boolean fits = before + n <= 256;
+                CHECK.due(before + " and a loss of " + n, g.play(), fits ? n : VoiceGateway.FULL);
+                CHECK.due("output()", g.output(), fits ? before + n : before);
+                CHECK.due("lost", g.figure(8), fits ? 13 : 12);
+                CHECK.due("next", g.figure(2), fits ? 18 : 17);
+            }
+        }
+        VoiceGateway g = new VoiceGateway();
+        filled(g, 247);
+        Calls.bring(g, 16, 256, false, 1600, 0, 0, 0, 0, 0, 0, 0, 0);
         g.play();
-        String before = Calls.figures(g);
-        CHECK.due("249 and 9", g.play(), VoiceGateway.FULL);
-        CHECK.due("nothing has changed", Calls.figures(g), before);
-        g.pass(2);
-        CHECK.due("247 and 9", g.play(), 9);
-        CHECK.due("lost", g.figure(8), 1);
+        CHECK.due("full", g.play(), VoiceGateway.FULL);
         CHECK.due("full again", g.play(), VoiceGateway.FULL);
-        CHECK.due("not lost yet", g.figure(8), 1);
-        g.pass(27);
-        for (int i = 0; i < 3; i++) {
-            CHECK.due("a loss", g.play(), 9);
+        g.pass(36);
+        for (int i = 1; i <= 4; i++) {
+            CHECK.due("loss " + i, g.play(), 9);
+            CHECK.due("refused ones do not count", g.sample(220 + 9 * (i - 1)), 1600 >> i);
         }
         CHECK.due("full", g.output(), 256);
         CHECK.due("the fifth loss needs no room", g.play(), 0);
         CHECK.due("at rest", g.figure(0), 0);
+    }
+
+    private static void refusesAsFullWhileItWaits() {
+        VoiceGateway g = new VoiceGateway();
+        newRunWhenFull(g);
+        CHECK.due("output()", g.output(), 256);
+        CHECK.due("no room", g.play(), VoiceGateway.FULL);
+        CHECK.due("it still waits", g.figure(0), 1);
+        g.prefill(2);
+        CHECK.due("and looks at the prefill again", g.play(), VoiceGateway.EMPTY);
+        g.prefill(1);
+        g.pass(2);
+        CHECK.due("with room", g.play(), 2);
+        CHECK.due("it plays", g.figure(0), 2);
+        CHECK.due("no jump", g.figure(9), 0);
+    }
+
+    private static void emptyBeforeFull() {
+        Twins.due(CHECK, "play() at rest with 256", VoiceGateway.EMPTY, g -> {
+            filled(g, 192);
+            Calls.playTimes(g, 5);
+            CHECK.due("at rest", g.figure(0), 0);
+            CHECK.due("output()", g.output(), 256);
+        }, VoiceGateway::play);
+        for (int prefill = 2; prefill <= 4; prefill++) {
+            int asked = prefill;
+            Twins.due(CHECK, "play() with 1 of " + prefill + " and 256", VoiceGateway.EMPTY, g -> {
+                newRunWhenFull(g);
+                g.prefill(asked);
+            }, VoiceGateway::play);
+        }
+        dueFull("with 2 of 2 and 256", g -> {
+            newRunWhenFull(g);
+            Calls.bring(g, 100, 0, false, 1);
+            g.prefill(2);
+        });
+    }
+
+    private static void numberThatWouldBePutOut() {
+        VoiceGateway small = new VoiceGateway();
+        filled(small, 255);
+        Calls.bring(small, 16, 256, false, 5);
+        CHECK.due("1 behind the last 16", small.play(), 1);
+        VoiceGateway large = new VoiceGateway();
+        filled(large, 240);
+        Calls.bring(large, 16, 256, false, 5);
+        Calls.bring(large, 17, 257, false, new int[16]);
+        CHECK.due("1", large.play(), 1);
+        CHECK.due("16 behind the last 1", large.play(), VoiceGateway.FULL);
+        VoiceGateway lost = new VoiceGateway();
+        filled(lost, 254);
+        Calls.bring(lost, 16, 256, false, 5);
+        Calls.bring(lost, 18, 258, false, new int[16]);
+        CHECK.due("1", lost.play(), 1);
+        CHECK.due("a loss of 1, with a packet of 16 behind it", lost.play(), 1);
+        CHECK.due("that packet", lost.play(), VoiceGateway.FULL);
+        VoiceGateway none = new VoiceGateway();
+        filled(none, 192);
+        Calls.playTimes(none, 4);
+        CHECK.due("output()", none.output(), 256);
+        CHECK.due("nothing, by the fifth loss", none.play(), 0);
+        CHECK.due("output()", none.output(), 256);
     }
 
     private static void sequencesWrap() {
