@@ -201,7 +201,7 @@ public final class P06SendTest {
     private static void fullLineAndInput(VoiceGateway g) {
         Calls.sendRun(g, 65530, 8);
         for (int i = 0; i < 64; i++) {
-            g.feed(i);
+            g.feed(1000 - i);
         }
     }
 

@@ -230,6 +230,7 @@ public final class P13PlayTest {
                 g.receive();
                 g.play();
                 CHECK.due("index " + index + ", code " + code, Calls.outputOf(g), first[0] + " " + second[0]);
+                CHECK.due("the sender's own", g.figure(10) + " " + g.figure(11), "0 0");
             }
         }
     }
@@ -372,6 +373,12 @@ public final class P13PlayTest {
         g.play();
         g.play();
         CHECK.due("a loss of three samples, not four", g.figure(9), 1);
+        VoiceGateway wraps = new VoiceGateway();
+        dueJumps(wraps, 0, Integer.MAX_VALUE - 2, false, 0);
+        wraps.play();
+        dueJumps(wraps, 2, Integer.MIN_VALUE + 1, false, 0);
+        wraps.play();
+        dueJumps(wraps, 4, Integer.MAX_VALUE, false, 1);
     }
 
     private static void expectsOverTheEnd() {

@@ -88,7 +88,8 @@ final class Twins {
         StringBuilder text = new StringBuilder();
         Calls.loseOutput(g);
         int next = Math.max(0, g.figure(2));
-        for (int source = 0; source < 4; source++) {
+        // Those that the pasts use for the source of all, and for another one.
+        for (int source : new int[] {0, 1, 5, 255, 256}) {
             g.begin(next, 0, source);
             Calls.sendOne(g, 3, 1);
             text.append(g.receive()).append(" ");
