@@ -14,7 +14,7 @@ public final class P13PlayTest {
         CHECK.sentence("... for every index and code", P13PlayTest::expandsEveryCodeOfEveryIndex);
         CHECK.sentence("its samples are put out, and are the LAST ones", P13PlayTest::theLastOnes);
         CHECK.sentence("If its mark is not set, ..., a JUMP is counted", P13PlayTest::noJumpWithTheMark);
-        CHECK.sentence("If ..., something was played before in this run (since the buffer was at rest), ..., a JUMP is counted",
+        CHECK.sentence("If ... something was played before in this run (since the buffer was at rest) ... a JUMP",
                 P13PlayTest::noJumpAtFirst);
         CHECK.sentence("If ... its time is not what was expected, a JUMP is counted", P13PlayTest::countsJumps);
         CHECK.sentence("expected is its time and its samples' number from now on", P13PlayTest::expectsFromNowOn);
