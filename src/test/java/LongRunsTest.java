@@ -101,8 +101,7 @@ public final class LongRunsTest {
                 CHECK.due(where + "play()", g.play(), m.play());
                 break;
             case 8:
-                // Not anyInt(): the model's sum would wrap.
-                int passed = random.nextInt(70) - 2;
+                int passed = mostly(70);
                 CHECK.due(where + "pass(" + passed + ")", g.pass(passed), m.pass(passed));
                 break;
             default:
